@@ -216,6 +216,7 @@ public final class Foretold {
         x.lay(1, 3);
         x.carry(1);
         winter(x, 0, 1, 2, 6, 25);
+        chance(x, 1, 1, 1, 5);
         DUE.bad("winter", x.winter(-1, 0, 0, 0), x.winter(7, 0, 0, 0), x.winter(0, -1, 0, 0),
             x.winter(0, 5, 0, 0), x.winter(0, 0, -1, 0), x.winter(0, 0, 11, 0), x.winter(0, 0, 0, -1),
             x.winter(0, 0, 0, 2));

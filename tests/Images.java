@@ -53,6 +53,23 @@ public final class Images {
         DUE.is("its spot", x.count(1), 6);
         DUE.is("its claims", x.count(0), 2);
         DUE.is("what may be undone then: nothing", x.undo(), -4);
+        eightAreKept();
         DUE.end();
+    }
+
+    private static void eightAreKept() {
+        DeedTortoise x = new DeedTortoise();
+        for (int k = 0; k < 9; k++) {
+            x.lettuce(k % 7, 2);
+        }
+        x.image();
+        x.days(40);
+        x.restore();
+        DUE.is("known", x.count(6), 8);
+        for (int k = 7; k >= 0; k--) {
+            DUE.is("undo", x.undo(), k);
+            DUE.is("food", x.count(3), 2 * k + 2);
+        }
+        DUE.is("undo", x.undo(), -4);
     }
 }

@@ -11,6 +11,7 @@ public final class ValleyTexts {
         faultsOfFields();
         faultsOfClaims();
         faultsOfNumbers();
+        eightyLetters();
         aFaultChangesNothing();
         DUE.end();
     }
@@ -155,6 +156,17 @@ public final class ValleyTexts {
         fault("0:mmmmmmm;3-3=100", 16);
         fault("0:mmmmmmm;3-3=010", 16);
         fault("0:mmmmmmm;3-3=-1", 14);
+    }
+
+    private static void eightyLetters() {
+        String text = "0:mmmmmmm;0-0=1,0-0=2,0-0=3,0-0=4,0-0=";
+        DeedTortoise x = new DeedTortoise();
+        DUE.is("the last one a first digit", Due.valley(x, " ".repeat(79 - text.length()) + text + "5"), 5);
+        DUE.is("worth", x.at(4, 2), 5);
+        DUE.is("the last one a second digit", Due.valley(x, " ".repeat(78 - text.length()) + text + "56"), 5);
+        DUE.is("worth", x.at(4, 2), 56);
+        DUE.is("the end", Due.valley(x, " ".repeat(80 - text.length()) + text), -100);
+        DUE.is("the end of blanks", Due.valley(x, " ".repeat(80)), -100);
     }
 
     private static void aFaultChangesNothing() {

@@ -20,7 +20,6 @@ public final class DeedTortoise {
     private final Sheet[] sheets;
     private boolean hasKept;
 
-    /** Seven meadows, the tortoise on the first one. */
     public DeedTortoise() {
         land = new Land();
         kept = new Land();
@@ -38,7 +37,6 @@ public final class DeedTortoise {
 
     // ---- 1 fields, claims
 
-    /** A field is of a kind: of which it was. */
     public int field(int field, int kind) {
         if (!isField(field) || !isWithin(kind, 0, KINDS - 1)) {
             return BAD;
@@ -49,7 +47,6 @@ public final class DeedTortoise {
         return was;
     }
 
-    /** A claim on fields from one to another one: its number. */
     public int claim(int from, int to, int worth) {
         if (!isField(from) || !isWithin(to, from, LAST_FIELD) || !isWithin(worth, 1, MOST_WORTH)) {
             return BAD;
@@ -62,7 +59,6 @@ public final class DeedTortoise {
         return land.claims - 1;
     }
 
-    /** Of a field: its kind, food, hedge, and by how many of ten the tortoise goes on or back from there. */
     public int of(int field, int what) {
         if (!isField(field)) {
             return BAD;
@@ -83,7 +79,6 @@ public final class DeedTortoise {
         }
     }
 
-    /** Of a claim: its first field, its last one, its worth. */
     public int at(int claim, int what) {
         if (!isClaim(claim)) {
             return BAD;
@@ -100,7 +95,6 @@ public final class DeedTortoise {
         }
     }
 
-    /** One letter more behind the tape: how many it has. */
     public int type(int letter) {
         if (!isWithin(letter, FIRST_LETTER, LAST_LETTER)) {
             return BAD;
@@ -108,7 +102,6 @@ public final class DeedTortoise {
         return reader.add(letter) ? reader.length : FULL;
     }
 
-    /** The tape becomes the valley: how many claims, or a fault; the tape is empty then. */
     public int valley() {
         trial.takeGround(land);
         boolean isValley = reader.readValley(trial);
@@ -124,7 +117,6 @@ public final class DeedTortoise {
         return land.claims;
     }
 
-    /** Counts and sums of what is so now. */
     public int count(int what) {
         switch (what) {
             case 0:
@@ -148,7 +140,6 @@ public final class DeedTortoise {
 
     // ---- what is done
 
-    /** So many days pass: on which field the tortoise is then. */
     public int days(int n) {
         if (!isWithin(n, 1, DAYS_DONE)) {
             return BAD;
@@ -163,7 +154,6 @@ public final class DeedTortoise {
         return land.now.spot;
     }
 
-    /** The tortoise is carried to another field: where it was. */
     public int carry(int field) {
         if (!isField(field)) {
             return BAD;
@@ -177,7 +167,6 @@ public final class DeedTortoise {
         return was;
     }
 
-    /** A field has more food: how much then. */
     public int lettuce(int field, int n) {
         if (!isField(field) || !isWithin(n, 1, MOST_FOOD)) {
             return BAD;
@@ -190,7 +179,6 @@ public final class DeedTortoise {
         return land.now.food[field];
     }
 
-    /** A field has another hedge: the one it had. */
     public int lay(int field, int hedge) {
         if (!isField(field) || !isWithin(hedge, 0, MOST_HEDGE)) {
             return BAD;
@@ -204,7 +192,6 @@ public final class DeedTortoise {
         return was;
     }
 
-    /** The latest thing done is as it had not been: how many more may be undone. */
     public int undo() {
         if (land.known < 1) {
             return NONE;
@@ -213,7 +200,6 @@ public final class DeedTortoise {
         return land.known;
     }
 
-    /** The draw becomes v: what it was. */
     public int seed(int v) {
         if (v < 0) {
             return BAD;
@@ -225,7 +211,6 @@ public final class DeedTortoise {
 
     // ---- 2 foretold
 
-    /** How likely the tortoise is on a field behind n days: above, below. */
     public int chance(int field, int n, int what) {
         if (!isField(field) || !isForetold(n) || !isWithin(what, 0, 1)) {
             return BAD;
@@ -235,7 +220,6 @@ public final class DeedTortoise {
         return (int) fraction.told(what);
     }
 
-    /** The field on which the tortoise is likeliest behind n days, of like ones the first. */
     public int likely(int n) {
         if (!isForetold(n)) {
             return BAD;
@@ -250,7 +234,6 @@ public final class DeedTortoise {
         return best;
     }
 
-    /** How many days, on the average, till the tortoise is on a field first: above, below. */
     public long mean(int field, int what) {
         if (!isAhead(field) || !isWithin(what, 0, 1)) {
             return BAD;
@@ -260,7 +243,6 @@ public final class DeedTortoise {
         return fraction.told(what);
     }
 
-    /** How likely the tortoise is on a claim behind n days: above, below, the claim's price. */
     public int right(int claim, int n, int what) {
         if (!isClaim(claim) || !isForetold(n) || !isWithin(what, 0, 2)) {
             return BAD;
@@ -274,7 +256,6 @@ public final class DeedTortoise {
         return (int) (what == 2 ? fraction.partOf(land.worth[claim]) : fraction.told(what));
     }
 
-    /** The set of fields on which the tortoise may be at all behind n days. */
     public int sure(int n) {
         if (!isForetold(n)) {
             return BAD;
@@ -289,7 +270,6 @@ public final class DeedTortoise {
         return set;
     }
 
-    /** The field without whose hedge the mean to a field is least, and that mean: above, below. */
     public long down(int field, int what) {
         if (!isAhead(field) || !isWithin(what, 0, 2)) {
             return BAD;
@@ -298,7 +278,6 @@ public final class DeedTortoise {
         return what == 0 ? best : fraction.told(what - 1);
     }
 
-    /** The least food by which the tortoise is on its own field behind n days by c of 100 or more. */
     public int keep(int n, int c) {
         if (!isWithin(n, 1, DAYS_FORETOLD) || !isWithin(c, 0, HUNDREDTHS)) {
             return BAD;
@@ -315,7 +294,6 @@ public final class DeedTortoise {
         return NONE;
     }
 
-    /** The first number of days behind which the tortoise is on a field by c of 100 or more. */
     public int early(int field, int c) {
         if (!isField(field) || !isWithin(c, 0, HUNDREDTHS)) {
             return BAD;
@@ -329,7 +307,6 @@ public final class DeedTortoise {
         return NONE;
     }
 
-    /** Where the tortoise will be behind n days by the draw as it is. */
     public int next(int n) {
         if (!isWithin(n, 0, DAYS_DONE)) {
             return BAD;
@@ -341,7 +318,6 @@ public final class DeedTortoise {
         return trial.now.spot;
     }
 
-    /** How likely it is on a field behind n days, on each of which it sleeps by c of 10: above, below. */
     public int winter(int field, int n, int c, int what) {
         if (!isField(field) || !isWithin(n, 0, DAYS_OF_WINTER)) {
             return BAD;
@@ -356,14 +332,12 @@ public final class DeedTortoise {
         return (int) fraction.told(what);
     }
 
-    /** All but the sheets and the tape is kept. */
     public int image() {
         kept.takeAll(land);
         hasKept = true;
         return 1;
     }
 
-    /** All is as it was when it was kept. */
     public int restore() {
         if (!hasKept) {
             return NONE;
@@ -374,7 +348,6 @@ public final class DeedTortoise {
 
     // ---- 3 sheets
 
-    /** How likely the days are of which a row tells: above, below, from which fields they may be. */
     public int seen(int sheet, int lane, int i, int n, int what) {
         if (!isSheet(sheet) || !isLane(lane) || !isWithin(n, 1, DAYS_SEEN) || !isWithin(what, 0, 2)) {
             return BAD;
@@ -392,7 +365,6 @@ public final class DeedTortoise {
         return (int) fraction.told(what);
     }
 
-    /** The set of kinds, or of foods, of a field by which the tortoise would go as a row tells. */
     public int bore(int field, int sheet, int lane, int i, int n, int what) {
         if (!isField(field) || !isSheet(sheet) || !isLane(lane)) {
             return BAD;
@@ -408,7 +380,6 @@ public final class DeedTortoise {
         return what == 0 ? kindsFor(field, row, i, n) : foodsFor(field, row, i, n);
     }
 
-    /** Where the tortoise will be behind 1, 2, .. n days comes to a sheet. */
     public int film(int n, int sheet, int lane, int i) {
         if (!isWithin(n, 1, ITEMS) || !isSheet(sheet) || !isLane(lane)) {
             return BAD;
@@ -426,7 +397,6 @@ public final class DeedTortoise {
         return n;
     }
 
-    /** A sheet holds a new row of a lane. */
     public int sheet(int sheet, int lane, int n) {
         if (!isSheet(sheet) || !isLane(lane) || n > ITEMS) {
             return BAD;
@@ -438,7 +408,6 @@ public final class DeedTortoise {
         return n;
     }
 
-    /** A sheet holds nothing: how many items it had. */
     public int drop(int sheet) {
         if (!isSheet(sheet)) {
             return BAD;
@@ -451,7 +420,6 @@ public final class DeedTortoise {
         return row.length;
     }
 
-    /** An item of a sheet becomes the lowest bits of v. */
     public int item(int sheet, int lane, int i, long v) {
         if (!isSheet(sheet) || !isLane(lane)) {
             return BAD;
@@ -465,7 +433,6 @@ public final class DeedTortoise {
         return 1;
     }
 
-    /** Items of a sheet come to another one, or the same, as if all were taken ahead. */
     public int copy(int from, int i, int to, int j, int n) {
         if (!isSheet(from) || !isSheet(to)) {
             return BAD;
@@ -538,7 +505,7 @@ public final class DeedTortoise {
         ways.spread(ground.now.spot, n);
     }
 
-    /** Leaves the least mean in the fraction. */
+    // the fraction is left as the least mean: down() tells that, too
     private int hedgeToOpen(int field) {
         int best = 0;
         for (int f = 0; f < FIELDS; f++) {
@@ -628,6 +595,7 @@ public final class DeedTortoise {
 
     /** The valley with its tortoise, its claims and what may be undone. */
     private static final class Land {
+        private static final int ON_FROM_MEADOW = 5;
         final int[] kind = new int[FIELDS];
         final Moment now = new Moment();
         // the latest one known comes last, so that the oldest one is lost from the front
@@ -660,20 +628,16 @@ public final class DeedTortoise {
                     return onFromStubble(food) + 2;
                 case MEADOW:
                 default:
-                    return onFromMeadow();
+                    return ON_FROM_MEADOW;
             }
         }
 
-        private static int onFromMeadow() {
-            return 5;
-        }
-
         private static int onFromClover(int food) {
-            return onFromMeadow() - food / 2;
+            return ON_FROM_MEADOW - food / 2;
         }
 
         private static int onFromStubble(int food) {
-            return onFromMeadow() + (food == 0 ? 2 : 0);
+            return ON_FROM_MEADOW + (food == 0 ? 2 : 0);
         }
 
         int backFrom(int field) {
@@ -827,7 +791,8 @@ public final class DeedTortoise {
             return odds[field] * HUNDREDTHS >= all * hundredths;
         }
 
-        /** It must pass every field between: the days from each one to the next one add up. */
+        // it must pass every field between, so the days from each one to the next one add up;
+        // those from below its own count, since hedges may send it back there
         void average(int from, int to, Fraction sum) {
             sum.become(0, 1);
             step.become(0, 1);
@@ -1019,7 +984,7 @@ public final class DeedTortoise {
             return true;
         }
 
-        /** The digit that stands next, or -1, if none from least to most does. */
+        // no digit is -1, since 0 is one
         private int readDigit(int least, int most) {
             int digit = look() - '0';
             if (!isWithin(digit, least, most)) {
@@ -1050,7 +1015,7 @@ public final class DeedTortoise {
             return n >= 0 && n <= length && i >= 0 && i <= length - n;
         }
 
-        /** What keeps n items from i on from being taken as a row of a lane; 0: nothing does. */
+        // 0: nothing is refused
         int refusal(int asLane, int i, int n) {
             if (!isHeld) {
                 return NULL;
@@ -1078,7 +1043,7 @@ public final class DeedTortoise {
             }
         }
 
-        /** The field that an item names, or -1, if it names none. */
+        // an item that names no field is told as -1, to which no way leads: such a row is impossible
         int fieldAt(int i) {
             long v = items[i];
             return v >= 0 && v <= LAST_FIELD ? (int) v : -1;
