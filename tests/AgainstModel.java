@@ -4,7 +4,8 @@ import java.util.Random;
 
 /** All promises: long runs of drawn calls, each answer compared with that of the model. */
 public final class AgainstModel {
-    private static final int RUNS = 600, CALLS = 500;
+    // a text adds 82 calls at most: no object is used for more than the 512 that are told
+    private static final int RUNS = 700, CALLS = 430;
     private static final Due DUE = new Due();
 
     /** Each call with the least and the most of its ordinary numbers. */

@@ -1,3 +1,5 @@
+import java.math.BigInteger;
+
 /** Compares answers with those that are due, and ends a test with exit code 1 if one was not. */
 final class Due {
     private int wrong = 0;
@@ -31,10 +33,42 @@ final class Due {
 
     /** The text is typed on the tape and becomes the valley. */
     static int valley(DeedTortoise x, String text) {
-        for (int k = 0; k < text.length(); k++) {
-            x.type(text.charAt(k));
-        }
+        type(x, text);
         return x.valley();
+    }
+
+    /** The text comes behind the tape: how many letters it has then. */
+    static int type(DeedTortoise x, String text) {
+        int typed = 0;
+        for (int k = 0; k < text.length(); k++) {
+            typed = x.type(text.charAt(k));
+        }
+        return typed;
+    }
+
+    /** The next draw after a draw of v, by whole numbers of any length. */
+    static int drawAfter(int v) {
+        return BigInteger.valueOf(v).multiply(BigInteger.valueOf(1103515245)).add(BigInteger.valueOf(12345))
+            .mod(BigInteger.TWO.pow(31)).intValueExact();
+    }
+
+    /** A draw by which the numbers of the next days are these, each 0 to 9. */
+    static int drawAheadOf(int... numbers) {
+        for (int v = 0; v < 10000000; v++) {
+            int draw = v;
+            int right = 0;
+            while (right < numbers.length) {
+                draw = drawAfter(draw);
+                if (draw / 65536 % 10 != numbers[right]) {
+                    break;
+                }
+                right++;
+            }
+            if (right == numbers.length) {
+                return v;
+            }
+        }
+        throw new IllegalArgumentException("no such draw was found");
     }
 
     /** The numbers come to a sheet as a new row of a lane. */

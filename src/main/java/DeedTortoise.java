@@ -51,10 +51,9 @@ public final class DeedTortoise {
         if (!isField(from) || !isWithin(to, from, LAST_FIELD) || !isWithin(worth, 1, MOST_WORTH)) {
             return BAD;
         }
-        if (land.claims >= CLAIMS) {
+        if (!land.addClaim(from, to, worth)) {
             return FULL;
         }
-        land.addClaim(from, to, worth);
         land.forget();
         return land.claims - 1;
     }
@@ -193,11 +192,7 @@ public final class DeedTortoise {
     }
 
     public int undo() {
-        if (land.known < 1) {
-            return NONE;
-        }
-        land.recall();
-        return land.known;
+        return land.recall() ? land.known : NONE;
     }
 
     public int seed(int v) {
@@ -595,7 +590,7 @@ public final class DeedTortoise {
 
     /** The valley with its tortoise, its claims and what may be undone. */
     private static final class Land {
-        private static final int ON_FROM_MEADOW = 5;
+        private static final int ON_FROM_MEADOW = 5, BITS_OF_DRAW = 0x7fffffff;
         final int[] kind = new int[FIELDS];
         final Moment now = new Moment();
         // the latest one known comes last, so that the oldest one is lost from the front
@@ -613,7 +608,7 @@ public final class DeedTortoise {
         }
 
         int onFrom(int field) {
-            if (field >= LAST_FIELD) {
+            if (!isWithin(field, 0, LAST_FIELD - 1)) {
                 return 0;
             }
             int food = now.food[field];
@@ -641,23 +636,32 @@ public final class DeedTortoise {
         }
 
         int backFrom(int field) {
-            return field <= 0 ? 0 : Math.min(now.hedge[field], TENTHS - onFrom(field));
+            if (!isWithin(field, 1, LAST_FIELD)) {
+                return 0;
+            }
+            return Math.min(now.hedge[field], TENTHS - onFrom(field));
         }
 
         void passDay() {
             int field = now.spot;
             int on = onFrom(field);
             int back = backFrom(field);
-            now.draw = (now.draw * 1103515245 + 12345) & Integer.MAX_VALUE;
+            now.draw = (now.draw * 1103515245 + 12345) & BITS_OF_DRAW;
             int drawn = now.draw / 65536 % TENTHS;
             if (drawn < on) {
                 now.spot = field + 1;
             } else if (drawn < on + back) {
                 now.spot = field - 1;
             } else {
-                now.food[field] = Math.max(0, now.food[field] - 1);
+                eat(field);
             }
             now.day++;
+        }
+
+        private void eat(int field) {
+            if (isField(field) && now.food[field] > 0) {
+                now.food[field]--;
+            }
         }
 
         void remember() {
@@ -677,20 +681,28 @@ public final class DeedTortoise {
             known = PAST - 1;
         }
 
-        void recall() {
+        boolean recall() {
+            if (known <= 0) {
+                return false;
+            }
             known--;
             now.take(past[known]);
+            return true;
         }
 
         void forget() {
             known = 0;
         }
 
-        void addClaim(int from, int to, int price) {
+        boolean addClaim(int from, int to, int price) {
+            if (claims >= CLAIMS) {
+                return false;
+            }
             first[claims] = from;
             last[claims] = to;
             worth[claims] = price;
             claims++;
+            return true;
         }
 
         int claimsOn(int field) {
@@ -944,11 +956,7 @@ public final class DeedTortoise {
                 return false;
             }
             int worth = readWorth();
-            if (worth < 0) {
-                return false;
-            }
-            land.addClaim(from, to, worth);
-            return true;
+            return worth > 0 && land.addClaim(from, to, worth);
         }
 
         private int readWorth() {
