@@ -11,6 +11,7 @@ import java.util.Arrays;
 import java.util.List;
 import java.util.Set;
 import java.util.TreeSet;
+import java.util.regex.Matcher;
 import java.util.regex.Pattern;
 
 /** The public face, the rules of LANGUAGE.md that can be looked up in the class, and the room that calls take. */
@@ -32,7 +33,12 @@ public final class FaceAndRules {
         theFace();
         theConstants();
         classesInside();
+        membersOf(DeedTortoise.class);
+        for (Class<?> inside : DeedTortoise.class.getDeclaredClasses()) {
+            membersOf(inside);
+        }
         theSource();
+        theLibrary();
         theRoom();
         DUE.end();
     }
@@ -97,6 +103,25 @@ public final class FaceAndRules {
         }
     }
 
+    /** Types, static fields, numbers of fields and of what a method takes: rules 1, 3, 5 and 11. */
+    private static void membersOf(Class<?> c) {
+        int own = 0;
+        for (Field f : c.getDeclaredFields()) {
+            own += Modifier.isStatic(f.getModifiers()) ? 0 : 1;
+            Class<?> type = f.getType();
+            boolean isRow = type.isArray() && !type.getComponentType().isArray();
+            Class<?> part = isRow ? type.getComponentType() : type;
+            DUE.isTrue(f + " is of a type of the rules", part.isPrimitive() || part.getEnclosingClass() == DeedTortoise.class);
+            DUE.isTrue(f + " is a number, if it is static", !Modifier.isStatic(f.getModifiers()) || type.isPrimitive());
+        }
+        DUE.isTrue(c + " has some twenty fields", own <= 20);
+        for (Method m : c.getDeclaredMethods()) {
+            DUE.isTrue(m + " takes seven at most", m.getParameterCount() <= 7);
+            boolean isFace = Arrays.stream(CALLS).anyMatch(call -> call.contains(" " + m.getName() + "("));
+            DUE.isTrue(m + " has a name of its own", !isFace || Modifier.isPublic(m.getModifiers()));
+        }
+    }
+
     /** What the rules forbid, and throw and catch: the document names no exception. */
     private static final String[] RULED_OUT = {
         "\\bimport\\b", "\\bpackage\\b", "\\bcatch\\b", "\\btry\\b", "\\bthrows?\\b", "\\bfinally\\b", "\\bsynchronized\\b",
@@ -123,6 +148,18 @@ public final class FaceAndRules {
                 start = -1;
             }
         }
+    }
+
+    /** What is named behind a class's name and a dot: of the library, which rule 4 lists, these alone. */
+    private static void theLibrary() throws IOException {
+        Set<String> used = new TreeSet<>();
+        String source = Files.readString(Path.of("src/main/java/DeedTortoise.java"));
+        Matcher m = Pattern.compile("\\b[A-Z]\\w*\\.\\w+").matcher(source);
+        while (m.find()) {
+            used.add(m.group());
+        }
+        DUE.isTrue("of the library: " + used, used.equals(Set.of("Math.max", "Math.min", "System.arraycopy")));
+        DUE.isTrue("no texts", !source.contains("\""));
     }
 
     /** New objects come from the constructor alone: the calls make nothing. */
